@@ -140,7 +140,7 @@ public final class WeightOrder {
         return key;
     }
 
-    // A point takes 21 bits, and one more than the point is kept, so that no point is not point 0.
+    // A point takes 21 bits; 1 is added to it, so that point 0 is told apart from no point at all.
     private static long longerKey(long key, int point) {
         return key << 21 | (point + 1);
     }

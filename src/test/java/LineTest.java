@@ -4,6 +4,7 @@ public final class LineTest {
         Check check = new Check();
         wrongNumbers(check);
         howMany(check);
+        farPoints(check);
         inPlaceOfAnother(check);
         room(check);
         longest(check);
@@ -38,6 +39,19 @@ public final class LineTest {
         check.answers(6, "line 0 again, other points do not count", () -> x.line(1, 0, 7, 9));
         check.answers(6, "line 0 1 again, the third does not count", () -> x.line(2, 0, 1, 9));
         check.answers(7, "line 0 1 9", () -> x.line(3, 0, 1, 9));
+    }
+
+    // Points far apart, so that rows that are not the same are never taken for one.
+    private static void farPoints(Check check) {
+        WeightOrder x = new WeightOrder();
+        int[] points = {0, 1, 131072, 1048576, 1114111};
+        for (int k = 0; k < 2 * 155; k++) {
+            int nth = k % 155;
+            int n = nth < 5 ? 1 : nth < 30 ? 2 : 3;
+            int rest = nth < 5 ? nth : nth < 30 ? nth - 5 : nth - 30;
+            check.answers(Math.min(k + 1, 155), "far line " + k,
+                    () -> x.line(n, points[rest % 5], points[rest / 5 % 5], points[rest / 25 % 5]));
+        }
     }
 
     private static void inPlaceOfAnother(Check check) {
@@ -115,6 +129,7 @@ public final class LineTest {
         Check.fill(x, 0, 1, 2, 3, 4);
         check.elements("[13.0.0.0][24.0.0.0]", "what is left stands together", x, 0, false);
         goingIsNoPassing(check);
+        leftOnesKeepTheirClasses(check);
         noLineNoPassing(check);
         behindLongerBeginning(check);
     }
@@ -125,6 +140,14 @@ public final class LineTest {
         Check.tell(x, 143, 1, 4, 3);
         Check.fill(x, 0, 1, 2, 4, 3);
         check.elements("[143.0.0.0][2.0.0.0]", "3 behind 4, which went: only 2 was passed over", x, 0, false);
+    }
+
+    private static void leftOnesKeepTheirClasses(Check check) {
+        WeightOrder x = between();
+        Check.tell(x, 15, 1, 5);
+        Check.tell(x, 34, 3, 4);
+        Check.fill(x, 0, 1, 3, 2, 5, 4);
+        check.elements("[15.0.0.0][34.0.0.0][2.0.0.0]", "what was passed over begins S in turn", x, 0, false);
     }
 
     private static void noLineNoPassing(Check check) {
