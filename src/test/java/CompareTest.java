@@ -37,14 +37,7 @@ public final class CompareTest {
     }
 
     private static void tell(WeightOrder x, int r, String elements) {
-        x.line(1, 10 + r, 0, 0);
-        for (String element : elements.split(", ")) {
-            String[] parts = element.split(" ");
-            if (parts.length > 2) {
-                x.element(Integer.parseInt(parts[0]), Integer.parseInt(parts[1]), Integer.parseInt(parts[2]),
-                        parts.length > 3);
-            }
-        }
+        Check.tellAll(x, elements, 10 + r);
         x.add(r, 10 + r);
     }
 

@@ -9,24 +9,19 @@ public final class OrderTest {
         check.end();
     }
 
-    private static long order(WeightOrder x, int point, int c) {
-        x.order(point, c);
-        return 0;
-    }
-
     private static void wrongNumbers(Check check) {
         WeightOrder x = lines();
         x.order(2, 5);
         x.order(3, 6);
-        check.refuses("order(-1, 1)", () -> order(x, -1, 1));
-        check.refuses("order(1114112, 1)", () -> order(x, Check.LAST_POINT + 1, 1));
-        check.refuses("order(2, -1)", () -> order(x, 2, -1));
-        check.refuses("order(2, 255)", () -> order(x, 2, 255));
-        check.refuses("order(MIN, MAX)", () -> order(x, Integer.MIN_VALUE, Integer.MAX_VALUE));
+        check.refuses("order(-1, 1)", () -> Check.order(x, -1, 1));
+        check.refuses("order(1114112, 1)", () -> Check.order(x, Check.LAST_POINT + 1, 1));
+        check.refuses("order(2, -1)", () -> Check.order(x, 2, -1));
+        check.refuses("order(2, 255)", () -> Check.order(x, 2, 255));
+        check.refuses("order(MIN, MAX)", () -> Check.order(x, Integer.MIN_VALUE, Integer.MAX_VALUE));
         Check.fill(x, 0, 1, 2, 3);
         check.elements("[13.0.0.0][20.0.0.0]", "a refused order changes nothing", x, 0, false);
-        check.answers(0, "order(0, 0)", () -> order(x, 0, 0));
-        check.answers(0, "order(1114111, 254)", () -> order(x, Check.LAST_POINT, 254));
+        check.answers(0, "order(0, 0)", () -> Check.order(x, 0, 0));
+        check.answers(0, "order(1114111, 254)", () -> Check.order(x, Check.LAST_POINT, 254));
     }
 
     private static WeightOrder lines() {

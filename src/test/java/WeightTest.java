@@ -59,12 +59,7 @@ public final class WeightTest {
 
     private static String shiftedOf(String elements) {
         WeightOrder x = new WeightOrder();
-        x.line(1, 1, 0, 0);
-        for (String element : elements.split(", ")) {
-            String[] parts = element.split(" ");
-            x.element(Integer.parseInt(parts[0]), Integer.parseInt(parts[1]), Integer.parseInt(parts[2]),
-                    parts.length > 3);
-        }
+        Check.tellAll(x, elements, 1);
         x.add(0, 1);
         return Check.elementsOf(x, 0, true);
     }
