@@ -204,6 +204,21 @@ public final class BoundsOfFindingTest {
         check.due("193 2", "S of two points at first", of(y, "1923"));
         Check.tell(y, 199, 1, 9, 9);
         check.due("199 2 3", "S of three points takes none", of(y, "19923"));
+        fourPointsAreNoLine(check);
+    }
+
+    // A key that had no room for a fourth point could take the last three of four for a LINE.
+    private static void fourPointsAreNoLine(Check check) {
+        for (int first : new int[] {0, 1, 9}) {
+            WeightOrder x = nine();
+            Check.tell(x, 90, first);
+            Check.tell(x, 91, first, 3);
+            Check.tell(x, 92, first, 3, 5);
+            Check.tell(x, 93, 3, 5, 7);
+            Check.tell(x, 94, 5, 7);
+            check.due("92 7", "three at the beginning, first " + first, of(x, first + "357"));
+            check.due("92 2 7", "three over another, first " + first, of(x, first + "2357"));
+        }
     }
 
     private static void anyOther(Check check) {
